@@ -833,7 +833,7 @@ public final class MeshRouting {
           break;
         default:
           learnNeighbour(message);
-          carry(message.packet, message.to, message.from);
+          carry(message.packet, message.to);
       }
       carryFound(message.to);
       links.giveBack(message);
@@ -848,7 +848,8 @@ public final class MeshRouting {
       packets.count++;
       packets.origins[packet] = origin;
       packets.destinations[packet] = destination;
-      carry(packet, origin, NONE);
+      packets.cameFrom[packet] = NONE;
+      carry(packet, origin);
       return packet;
     }
 
@@ -898,7 +899,8 @@ public final class MeshRouting {
       learn(message.to, message.from, NONE, 1, message.from, freshExpiry());
     }
 
-    private void learn(int node, int destination, int sequence, int hopCount, int next, int expiry) {
+    private void learn(int node, int destination, int sequence, int hopCount, int next,
+        int expiry) {
       if (destination == node) {
         return;
       }
@@ -919,8 +921,7 @@ public final class MeshRouting {
         if ((found >> destination & 1) != 0) {
           int cell = cellOf(node, destination);
           for (int left = searches.waiting[cell]; left > 0; left--) {
-            int packet = searches.takeOldest(cell);
-            carry(packet, node, packets.cameFrom[packet]);
+            carry(searches.takeOldest(cell), node);
           }
         }
       }
@@ -929,11 +930,10 @@ public final class MeshRouting {
 
     // -- packets
 
-    private void carry(int packet, int node, int from) {
+    private void carry(int packet, int node) {
       int destination = packets.destinations[packet];
       int cell = cellOf(node, destination);
       packets.places[packet] = node;
-      packets.cameFrom[packet] = from;
       if (node == destination) {
         packets.deliver(packet, time);
       } else if (packets.linksUsed[packet] >= MOST_LINKS_OF_A_PACKET) {
@@ -954,6 +954,7 @@ public final class MeshRouting {
         }
       } else {
         packets.drop(packet, NO_ROUTE, time);
+        int from = packets.cameFrom[packet];
         if (from != NONE && links.isUp(node, from)) {
           sendError(node, from, destination);
         }
@@ -1140,20 +1141,16 @@ public final class MeshRouting {
 
     /** Follows valid routes; the number of links, WITHOUT_ROUTE or IN_A_LOOP. */
     int walk(int start, int destination) {
-      int seen = 0;
       int node = start;
-      for (int followed = 0; followed <= nodes; followed++) {
-        int cell = cellOf(node, destination);
+      // Without a loop no node is there twice, so that fewer links than nodes are enough.
+      for (int followed = 0; followed < nodes; followed++) {
         if (node == destination) {
           return followed;
         }
-        if ((seen >> node & 1) != 0) {
-          return IN_A_LOOP;
-        }
+        int cell = cellOf(node, destination);
         if (!routes.usable(cell, time)) {
           return WITHOUT_ROUTE;
         }
-        seen |= 1 << node;
         node = routes.nextNodes[cell];
       }
       return IN_A_LOOP;

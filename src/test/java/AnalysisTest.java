@@ -13,6 +13,7 @@ public final class AnalysisTest {
     forecastChangesNothing();
     damage();
     damageOfLinkThatIsDown();
+    damageKnowsThePackets();
     damageChangesNothing();
     keepAndRestore();
     restoreMakesEverythingAsItWas();
@@ -203,6 +204,31 @@ public final class AnalysisTest {
     Check.due("damage(1, 2, 71)", x.damage(1, 2, 71), 0);
     Check.due("damage(1, 2, 72): it would be dropped anyhow", x.damage(1, 2, 72), 1);
     Check.due("damage(1, 2, 100000)", x.damage(1, 2, 100000), 1);
+  }
+
+  private static void damageKnowsThePackets() {
+    Check.part("promise 32, which packets they are");
+    MeshRouting x = PacketsTest.chainAt9();
+    x.send(1, 2);
+    x.send(2, 1);
+    x.send(3, 2);
+    Check.due("damage(1, 2, 0)", x.damage(1, 2, 0), 2);
+    Check.due("damage(2, 3, 0)", x.damage(2, 3, 0), 1);
+    MeshRouting y = new MeshRouting(3);
+    y.send(0, 1);
+    y.send(2, 1);
+    y.send(0, 1);
+    y.send(0, 2);
+    Check.due("damage(0, 1, 100000): all in buffers", y.damage(0, 1, 100000), 4);
+    // The route that 1 finds expires on its way; 1 searches again as the origin of the packet.
+    MeshRouting z = new MeshRouting(3);
+    z.setLink(0, 1, 9);
+    z.setParameter(0, 9);
+    z.setParameter(7, 0);
+    z.send(1, 0);
+    Check.due("damage(0, 2, 100)", z.damage(0, 2, 100), 0);
+    z.run(100);
+    Check.due("stateOf(0)", z.stateOf(0), 2);
   }
 
   private static void damageChangesNothing() {

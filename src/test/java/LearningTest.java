@@ -3,6 +3,8 @@ public final class LearningTest {
   public static void main(String[] args) {
     neighbourTakesThePlaceOfLongerRoute();
     unknownNumberOnlyProlongs();
+    sameNumberOnlyProlongs();
+    lesserNumberDoesNothing();
     greaterNumberTakesThePlace();
     fewerHopsTakeThePlace();
     moreOrOtherHopsDoNot();
@@ -73,6 +75,46 @@ public final class LearningTest {
     x.send(1, 2);
     x.run(1);
     route(x, 2, 1, -1, 1, 1, 108);
+    Check.part("learning without a number, the same way, the entry has one");
+    MeshRouting y = Check.mesh(2, 0, 1);
+    y.send(0, 1);
+    y.run(1);
+    route(y, 1, 0, 1, 1, 0, 61);
+    y.run(2);
+    route(y, 1, 0, 1, 1, 0, 63);
+  }
+
+  /** 0 and 3 ask for 4 over 1 and 2, one after the other, before 2 can answer. */
+  private static void sameNumberOnlyProlongs() {
+    Check.part("learning the same number by the same way");
+    for (int way = 0; way < 2; way++) {
+      MeshRouting x = Check.mesh(5, 0, 1, 3, 1, 1, 2, 2, 4);
+      x.setParameter(1, 3);
+      x.send(0, 4);
+      x.run(1);
+      x.send(3, 4);
+      x.run(2);
+      x.setParameter(0, way == 0 ? 60 : 10);
+      x.run(2);
+      route(x, 1, 4, 0, 2, 2, 63);
+      x.run(1);
+      Check.due("users(1, 4): both replies have come", x.users(1, 4), 9);
+      route(x, 1, 4, 0, 2, 2, way == 0 ? 64 : 63);
+    }
+  }
+
+  private static void lesserNumberDoesNothing() {
+    Check.part("learning a lesser number by the same way");
+    MeshRouting x = Loop.raised();
+    int expiry = x.expiry(1, 3);
+    route(x, 1, 3, 6, 2, 2, expiry);
+    x.send(3, 9);
+    x.run(2);
+    route(x, 1, 3, 6, 2, 2, expiry);
+    Check.due("sequence(2, 3)", x.sequence(2, 3), 6);
+    Check.due("expiry(2, 3): the neighbour is learnt", x.expiry(2, 3), x.time() - 1 + 60);
+    Check.due("2 passed it on", x.isValid(1, 2), true);
+    Check.due("expiry(1, 2)", x.expiry(1, 2), x.time() + 60);
   }
 
   private static void greaterNumberTakesThePlace() {

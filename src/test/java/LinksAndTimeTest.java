@@ -8,6 +8,7 @@ public final class LinksAndTimeTest {
     setLink();
     linkThatIsUpGetsAnotherDelay();
     linkGoesDown();
+    othersOfTheSameTimeStay();
     link();
     setParameter();
     whatWasSetBeforeStays();
@@ -111,6 +112,32 @@ public final class LinksAndTimeTest {
     Check.due("searching(0, 1) goes on", x.searching(0, 1), 1);
   }
 
+  private static void othersOfTheSameTimeStay() {
+    Check.part("promise 2, down, messages that arrive at one time");
+    for (int lost = 1; lost <= 4; lost++) {
+      MeshRouting x = Check.mesh(6, 0, 1, 0, 2, 0, 3, 0, 4);
+      x.send(0, 5);
+      x.setLink(0, lost, 0);
+      Check.due("inFlight(0) without " + lost, x.inFlight(0), 3);
+      // One more behind those that are left, on a new link.
+      x.setLink(0, lost, 1);
+      x.send(lost, 5);
+      Check.due("inFlight(0) and one more", x.inFlight(0), 4);
+      Check.due("run(1) without " + lost, x.run(1), 4);
+      for (int node = 1; node <= 4; node++) {
+        Check.due("isValid(" + node + ", 0)", x.isValid(node, 0), node != lost);
+      }
+      Check.due("isValid(0, " + lost + ")", x.isValid(0, lost), true);
+      Check.due("inFlight(0) at the end", x.inFlight(0), 0);
+    }
+    MeshRouting y = Check.mesh(3, 0, 1);
+    y.send(0, 2);
+    y.send(1, 2);
+    y.setLink(0, 1, 0);
+    Check.due("inFlight(0): all are lost", y.inFlight(0), 0);
+    Check.due("run(39)", y.run(39), 0);
+  }
+
   private static void link() {
     Check.part("promise 3");
     MeshRouting x = new MeshRouting(4);
@@ -192,6 +219,13 @@ public final class LinksAndTimeTest {
     Check.bounds(x, "the node comes first of all", () -> x.send(2, 2));
     Check.due("stateOf(199)", x.stateOf(199), 0);
     Check.bounds(x, "stateOf(200)", () -> x.stateOf(200));
+    Check.due("damage(0, 1, 0)", x.damage(0, 1, 0), 0);
+    x.run(3);
+    Check.due("packets(2)", x.packets(2), 8);
+    Check.due("totalHops()", x.totalHops(), 8);
+    Check.due("setLink(0, 1, 0)", x.setLink(0, 1, 0), 1);
+    Check.due("nodeOf(199)", x.nodeOf(199), 0);
+    Check.due("endOf(199): it went when the request of 0 came", x.endOf(199), 2);
     Check.due("packets(3), for the buffers are full", x.packets(3), 192);
   }
 

@@ -149,16 +149,22 @@ public final class PacketsTest {
     x.send(0, 1);
     x.send(1, 0);
     x.send(3, 2);
-    counts(x, 0, 4, 1, 0);
+    x.send(1, 2);
+    x.send(2, 1);
+    counts(x, 0, 6, 1, 0);
     x.setLink(0, 1, 0);
     packet(x, 1, 3, 1, 1, 9, 22);
     packet(x, 2, 3, 1, 1, 9, 22);
     packet(x, 3, 3, 0, 1, 9, 22);
     packet(x, 4, 1, 2, 1, -1, 0);
-    counts(x, 0, 1, 1, 3);
-    Check.due("inFlight(3)", x.inFlight(3), 1);
+    packet(x, 5, 1, 2, 1, -1, 0);
+    packet(x, 6, 1, 1, 1, -1, 0);
+    counts(x, 0, 3, 1, 3);
+    Check.due("inFlight(3)", x.inFlight(3), 3);
     x.run(1);
     packet(x, 4, 2, 2, 1, 10, 0);
+    packet(x, 5, 2, 2, 1, 10, 0);
+    packet(x, 6, 2, 1, 1, 10, 0);
   }
 
   private static void tooManyLinks() {

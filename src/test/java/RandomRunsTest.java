@@ -16,6 +16,7 @@ public final class RandomRunsTest {
   private final Random random;
   private final int nodes;
   private final int style;
+  private final boolean crowded;
   private final MeshRouting x;
   private final PlainModel y;
 
@@ -24,6 +25,7 @@ public final class RandomRunsTest {
     int wanted = seed % 17 == 0 ? random.nextInt(30) - 10 : 2 + random.nextInt(9);
     nodes = Math.max(2, Math.min(10, wanted));
     style = seed % 4;
+    crowded = seed % 9 == 0;
     x = new MeshRouting(wanted);
     y = new PlainModel(wanted);
   }
@@ -122,6 +124,9 @@ public final class RandomRunsTest {
 
   private void randomCall(String where) {
     int call = random.nextInt(3) > 0 ? OFTEN[random.nextInt(OFTEN.length)] : random.nextInt(FACE + 1);
+    if (crowded && random.nextInt(4) > 0) {
+      call = 3;
+    }
     if (call == 32 && random.nextInt(3) > 0 || style == 3 && call == 0 && random.nextInt(3) > 0) {
       call = 3;
     }

@@ -6,7 +6,10 @@ public final class SearchesTest {
     diameterBelowTheThreshold();
     startAtTheThreshold();
     parametersChangeOnTheWay();
+    secondSearch();
+    manyAsks();
     oneSearchForAllPackets();
+    expiredReplyEndsNothing();
     repairRange();
     repairSucceeds();
     repairOfTheOriginFails();
@@ -17,6 +20,7 @@ public final class SearchesTest {
     oldestPacketsGoFirst();
     foundRouteIsLostAgain();
     foundRouteIsLostOnTheWay();
+    foundOnlyOnce();
     timeoutsInOrder();
     arrivalsBeforeTimeouts();
     Check.end("SearchesTest");
@@ -100,6 +104,63 @@ public final class SearchesTest {
     y.setParameter(3, 10);
     y.step();
     Check.due("one more try, and no more rings", y.timeout(0, 1) - y.time(), 3 * 2);
+  }
+
+  private static void secondSearch() {
+    Check.part("a search after one that failed");
+    MeshRouting x = lonely(1, 2, 5, 10, 2);
+    x.run(1000);
+    Check.due("searching(0, 1)", x.searching(0, 1), 0);
+    x.send(0, 1);
+    int[] want = {1, 3, 5, 10, 10};
+    for (int range : want) {
+      Check.due("timeout(0, 1) for range " + range, x.timeout(0, 1) - x.time(), 20 * (range + 1));
+      x.step();
+    }
+    Check.due("searching(0, 1)", x.searching(0, 1), 0);
+    Check.due("sequence(0, 0)", x.sequence(0, 0), 10);
+  }
+
+  /** Each request is remembered, however many there are; a checkpoint takes them along. */
+  private static void manyAsks() {
+    Check.part("many asks");
+    MeshRouting x = Check.mesh(4, 0, 1, 1, 2, 2, 0);
+    int[] values = {2, 1, 1, 2, 3, 1};
+    for (int k = 0; k < values.length; k++) {
+      x.setParameter(k + 1, values[k]);
+    }
+    for (int packet = 0; packet < 180; packet++) {
+      x.send(0, 3);
+      if (packet % 60 == 59) {
+        x.keep();
+        x.run(1);
+        Check.due("forecast(0, 3, 100)", x.forecast(0, 3, 100), 3);
+        x.restore();
+      }
+      x.run(12);
+      Check.due("own sequence number after " + packet, x.sequence(0, 0), 4 * (packet + 1));
+      Check.due("sequence(1, 0)", x.sequence(1, 0), 4 * (packet + 1));
+      Check.due("sequence(2, 0)", x.sequence(2, 0), 4 * (packet + 1));
+      Check.due("sent(0): 6 for each", x.sent(0), 24 * (packet + 1));
+    }
+  }
+
+  private static void expiredReplyEndsNothing() {
+    Check.part("a reply that has expired");
+    MeshRouting x = Check.mesh(3, 1, 2);
+    x.setLink(0, 1, 9);
+    x.setParameter(0, 10);
+    x.setParameter(1, 2);
+    x.send(0, 2);
+    x.run(20);
+    Check.due("isValid(0, 1)", x.isValid(0, 1), true);
+    Check.due("expiry(0, 2)", x.expiry(0, 2), 20);
+    Check.due("hops(0, 2)", x.hops(0, 2), 2);
+    Check.due("isValid(0, 2)", x.isValid(0, 2), false);
+    Check.due("searching(0, 2)", x.searching(0, 2), 1);
+    Check.due("timeout(0, 2)", x.timeout(0, 2), 60);
+    Check.due("buffered(0, 2)", x.buffered(0, 2), 1);
+    Check.due("sequence(0, 0)", x.sequence(0, 0), 1);
   }
 
   private static void oneSearchForAllPackets() {
@@ -390,6 +451,22 @@ public final class SearchesTest {
     z.run(1);
     Check.due("whyDropped(1, 1)", z.whyDropped(1, 1), 12);
     Check.due("sent(2)", z.sent(2), errors);
+  }
+
+  /** What 0 has found is no business of 1, whose packet waits although repairs are off now. */
+  private static void foundOnlyOnce() {
+    Check.part("a route that another node has found");
+    MeshRouting x = PacketsTest.chainAt9();
+    x.send(0, 3);
+    x.setLink(1, 2, 0);
+    x.run(1);
+    Check.due("searching(1, 3)", x.searching(1, 3), 2);
+    x.setParameter(7, 0);
+    x.send(0, 1);
+    x.run(1);
+    Check.due("stateOf(2)", x.stateOf(2), 2);
+    Check.due("stateOf(1)", x.stateOf(1), 0);
+    Check.due("searching(1, 3)", x.searching(1, 3), 2);
   }
 
   private static void timeoutsInOrder() {

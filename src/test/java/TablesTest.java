@@ -130,29 +130,26 @@ public final class TablesTest {
 
   private static void searchingAndTimeout() {
     Check.part("promises 18 and 19");
+    // The error of the break needs two units to 0, as the packet needs to 2.
     MeshRouting x = chainAt49();
+    x.send(0, 3);
     x.setLink(2, 3, 0);
     x.run(1);
+    Check.due("isValid(0, 3), which does not know yet", x.isValid(0, 3), true);
+    x.run(1);
+    Check.due("searching(0, 3), nothing is to be sent", x.searching(0, 3), 0);
+    Check.due("searching(2, 3), the packet is held there", x.searching(2, 3), 2);
+    Check.due("timeout(2, 3): a range of 1 + 2", x.timeout(2, 3), 51 + 20 * 4);
+    Check.due("buffered(2, 3)", x.buffered(2, 3), 1);
+    Check.due("isValid(0, 3)", x.isValid(0, 3), false);
     x.send(0, 3);
-    Check.due("searching(0, 3)", x.searching(0, 3), 0);
-    // The error travels behind the break, so 0 knows of it only at 51.
-    MeshRouting y = chainAt49();
-    y.send(0, 3);
-    y.setLink(2, 3, 0);
-    y.run(2);
-    Check.due("searching(0, 3), a search is not needed", y.searching(0, 3), 0);
-    Check.due("searching(2, 3), the packet is held there", y.searching(2, 3), 2);
-    Check.due("timeout(2, 3): a range of 1 + 2", y.timeout(2, 3), 51 + 20 * 4);
-    Check.due("buffered(2, 3)", y.buffered(2, 3), 1);
-    Check.due("isValid(0, 3)", y.isValid(0, 3), false);
-    y.send(0, 3);
-    Check.due("searching(0, 3)", y.searching(0, 3), 1);
-    Check.due("timeout(0, 3): a range of 1", y.timeout(0, 3), 51 + 20 * 2);
-    Check.due("searching(0, 0)", y.searching(0, 0), 0);
-    Check.due("timeout(3, 3)", y.timeout(3, 3), -1);
-    y.run(80);
-    Check.due("searching(2, 3) after its timeout", y.searching(2, 3), 0);
-    Check.due("timeout(2, 3) after its timeout", y.timeout(2, 3), -1);
+    Check.due("searching(0, 3)", x.searching(0, 3), 1);
+    Check.due("timeout(0, 3): a range of 1", x.timeout(0, 3), 51 + 20 * 2);
+    Check.due("searching(0, 0)", x.searching(0, 0), 0);
+    Check.due("timeout(3, 3)", x.timeout(3, 3), -1);
+    x.run(80);
+    Check.due("searching(2, 3) after its timeout", x.searching(2, 3), 0);
+    Check.due("timeout(2, 3) after its timeout", x.timeout(2, 3), -1);
   }
 
   private static void buffered() {
