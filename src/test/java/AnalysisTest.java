@@ -295,11 +295,13 @@ public final class AnalysisTest {
       Check.due("whyDropped(" + packet + ", 1)", x.whyDropped(packet, 1), y.whyDropped(packet, 1));
     }
     Check.bounds(x, "stateOf(6)", () -> x.stateOf(6));
-    for (int event = 0; event < 200; event++) {
+    for (int event = 0; event < 100; event++) {
       Check.due("fingerprint() before event " + event, x.fingerprint(), y.fingerprint());
       Check.due("nextEvent() " + event, x.nextEvent(), y.nextEvent());
       Check.due("step " + event, x.step(), y.step());
     }
+    Check.due("run(10000)", x.run(10000), y.run(10000));
+    Check.due("fingerprint() at the end", x.fingerprint(), y.fingerprint());
     for (int parameter = 0; parameter < 8; parameter++) {
       Check.due("parameter " + parameter, x.setParameter(parameter, 2), y.setParameter(parameter, 2));
     }
@@ -320,18 +322,36 @@ public final class AnalysisTest {
 
   private static void fingerprintOfNumbers() {
     Check.part("promise 35");
-    MeshRouting x = busy();
     for (int event = 0; event < 60; event++) {
-      Check.due("fingerprint() after event " + event, x.fingerprint(), fingerprintBy(x, 5));
-      x.step();
+      int steps = event;
+      Maker made = () -> {
+        MeshRouting x = busy();
+        for (int k = 0; k < steps; k++) {
+          x.step();
+        }
+        return x;
+      };
+      Check.due("fingerprint() after event " + event, made.made().fingerprint(),
+          fingerprintBy(made, 5));
     }
-    MeshRouting loop = Loop.made();
-    loop.run(5);
-    Check.due("fingerprint() of a loop", loop.fingerprint(), fingerprintBy(loop, 10));
+    Maker loop = () -> {
+      MeshRouting x = Loop.made();
+      x.run(5);
+      return x;
+    };
+    Check.due("fingerprint() of a loop", loop.made().fingerprint(), fingerprintBy(loop, 10));
   }
 
-  /** The fingerprint as the document makes it from the answers of the other calls. */
-  private static long fingerprintBy(MeshRouting x, int nodes) {
+  interface Maker {
+    MeshRouting made();
+  }
+
+  /**
+   * The fingerprint as the document makes it from the answers of the other calls. Each node's table
+   * is asked of an object of its own, so that none gets more than 512 calls.
+   */
+  private static long fingerprintBy(Maker maker, int nodes) {
+    MeshRouting x = maker.made();
     long print = 29 * 31 + x.time();
     for (int kind = 0; kind < 4; kind++) {
       print = print * 31 + x.sent(kind);
@@ -340,10 +360,11 @@ public final class AnalysisTest {
       print = print * 31 + x.inFlight(kind);
     }
     for (int i = 0; i < nodes; i++) {
+      MeshRouting y = maker.made();
       for (int d = 0; d < nodes; d++) {
         if (i != d) {
-          int[] cell = {x.isValid(i, d) ? 1 : 0, x.nextNode(i, d), x.hops(i, d), x.sequence(i, d),
-              x.users(i, d), x.searching(i, d), x.buffered(i, d)};
+          int[] cell = {y.isValid(i, d) ? 1 : 0, y.nextNode(i, d), y.hops(i, d), y.sequence(i, d),
+              y.users(i, d), y.searching(i, d), y.buffered(i, d)};
           for (int number : cell) {
             print = print * 31 + number;
           }

@@ -26,6 +26,14 @@ final class Check {
     due(call, got ? 1 : 0, want ? 1 : 0);
   }
 
+  static void due(String call, String got, String want) {
+    asked++;
+    if (!got.equals(want)) {
+      wrong++;
+      System.out.println(part + ": " + call + " answered " + got + ", due is " + want);
+    }
+  }
+
   /** The call must throw just this kind of exception, and the fingerprint must stay. */
   static void refuses(MeshRouting x, String call, Class<?> want, Call made) {
     asked++;

@@ -1,12 +1,15 @@
 import java.util.Random;
 
-/** Random runs of 512 calls, each answer compared with that of PlainModel. */
+/** Random runs of 512 calls in all, each answer compared with that of PlainModel. */
 public final class RandomRunsTest {
-  private static final int RUNS = Integer.getInteger("runs", 400);
+  private static final int RUNS = Integer.getInteger("runs", 4000);
   private static final int CALLS = 512;
   private static final int FACE = 33;
   // The calls that change something come more often than the questions.
   private static final int[] OFTEN = {0, 0, 0, 0, 2, 3, 3, 3, 3, 3, 4, 4, 4, 4, 4, 5, 5, 5, 5};
+
+  private static final int[] QUESTIONS = {6, 7, 8, 9, 10, 11, 12, 13, 14, 15, 16, 17, 18, 19, 20, 21,
+      22, 23, 24, 25, 26, 27, 28, 29, 30};
 
   private static final int[] causes = new int[24];
   private static int looped;
@@ -19,6 +22,7 @@ public final class RandomRunsTest {
   private final boolean crowded;
   private final MeshRouting x;
   private final PlainModel y;
+  private int left = CALLS;
 
   private RandomRunsTest(int seed) {
     random = new Random(seed);
@@ -114,6 +118,10 @@ public final class RandomRunsTest {
   }
 
   private void same(String where, int call, int a, int b, int c) {
+    if (left == 0) {
+      return;
+    }
+    left--;
     String want = outcome(true, call, a, b, c);
     String got = outcome(false, call, a, b, c);
     Check.due(where + " call " + call + "(" + a + ", " + b + ", " + c + ") is " + want + ", not " + got,
@@ -151,25 +159,15 @@ public final class RandomRunsTest {
     same(where, call, a, b, c);
   }
 
-  private void compareAll(String where) {
-    for (int call = 10; call <= 27; call++) {
-      if (call >= 10 && call <= 18 || call == 25 || call == 27) {
-        for (int a = 0; a < nodes; a++) {
-          for (int b = 0; b < nodes; b++) {
-            same(where, call, a, b, 0);
-          }
-        }
-      }
+  private void randomQuestion(String where) {
+    int call = QUESTIONS[random.nextInt(QUESTIONS.length)];
+    if (call == 8 || call == 9 || call == 24) {
+      same(where, call, random.nextInt(4), 0, 0);
+    } else if (call >= 19 && call <= 23) {
+      same(where, call, packet(), random.nextInt(2), 0);
+    } else {
+      same(where, call, random.nextInt(nodes), random.nextInt(nodes), units());
     }
-    int count = y.packets(0) + y.packets(1) + y.packets(2) + y.packets(3);
-    for (int call = 19; call <= 23; call++) {
-      for (int packet = 0; packet < count; packet++) {
-        same(where, call, packet, 1, 0);
-      }
-    }
-    same(where, 7, 0, 0, 0);
-    same(where, 26, 0, 0, 0);
-    same(where, 28, 0, 0, 0);
   }
 
   private void linkAll() {
@@ -182,17 +180,23 @@ public final class RandomRunsTest {
     }
   }
 
+  /** Some runs ask little until their end, so that much can happen; others ask all the time. */
   private void go(int seed) {
     if (seed % 3 > 0) {
       linkAll();
     }
-    for (int call = 0; call < CALLS; call++) {
-      String where = "seed " + seed + ", call " + call;
-      randomCall(where);
-      same(where, FACE, 0, 0, 0);
-      same(where, 26, 0, 0, 0);
-      if (call % 64 == 63) {
-        compareAll(where);
+    if (style == 3) {
+      same("at first", 2, 1, 3 + random.nextInt(8), 0);
+    }
+    int questions = seed % 5 < 2 ? CALLS : seed % 5 == 2 ? 250 : 100;
+    while (left > 0) {
+      String where = "seed " + seed + ", call " + (CALLS - left);
+      if (left > questions || questions == CALLS && left % 2 == 0) {
+        randomCall(where);
+      } else if (random.nextInt(4) == 0) {
+        same(where, FACE, 0, 0, 0);
+      } else {
+        randomQuestion(where);
       }
     }
     count();

@@ -138,10 +138,12 @@ public final class SearchesTest {
         x.restore();
       }
       x.run(12);
-      Check.due("own sequence number after " + packet, x.sequence(0, 0), 4 * (packet + 1));
-      Check.due("sequence(1, 0)", x.sequence(1, 0), 4 * (packet + 1));
-      Check.due("sequence(2, 0)", x.sequence(2, 0), 4 * (packet + 1));
-      Check.due("sent(0): 6 for each", x.sent(0), 24 * (packet + 1));
+      if (packet % 9 == 0 || packet == 179) {
+        Check.due("own sequence number after " + packet, x.sequence(0, 0), 4 * (packet + 1));
+        Check.due("sequence(1, 0)", x.sequence(1, 0), 4 * (packet + 1));
+        Check.due("sequence(2, 0)", x.sequence(2, 0), 4 * (packet + 1));
+        Check.due("sent(0): 6 for each", x.sent(0), 24 * (packet + 1));
+      }
     }
   }
 
@@ -278,6 +280,14 @@ public final class SearchesTest {
       x.setLink(0, 1, 0);
       Check.due("inFlight(2) but for that to 0", x.inFlight(2), 1 - downLink);
     }
+    Check.part("users at the end of a repair, in ascending order");
+    x.restore();
+    x.send(0, 3);
+    x.run(101);
+    Check.due("inFlight(2)", x.inFlight(2), 2);
+    Check.due("step()", x.step(), 2);
+    x.setLink(1, 4, 0);
+    Check.due("the first one was that to 0", x.inFlight(2), 0);
   }
 
   private static void searchAtTheMiddleHoldsPackets() {

@@ -64,8 +64,8 @@ public final class TablesTest {
 
   private static void withoutEntries() {
     Check.part("promises 12 to 20, no entries");
-    MeshRouting x = new MeshRouting(10);
     for (int i = 0; i < 10; i++) {
+      MeshRouting x = new MeshRouting(10);
       for (int d = 0; d < 10; d++) {
         String pair = "(" + i + ", " + d + ")";
         Check.due("isValid" + pair, x.isValid(i, d), false);
