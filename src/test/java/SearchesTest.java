@@ -21,6 +21,7 @@ public final class SearchesTest {
     foundRouteIsLostAgain();
     foundRouteIsLostOnTheWay();
     foundOnlyOnce();
+    heldUntilItIsFound();
     timeoutsInOrder();
     arrivalsBeforeTimeouts();
     Check.end("SearchesTest");
@@ -477,6 +478,31 @@ public final class SearchesTest {
     Check.due("stateOf(2)", x.stateOf(2), 2);
     Check.due("stateOf(1)", x.stateOf(1), 0);
     Check.due("searching(1, 3)", x.searching(1, 3), 2);
+  }
+
+  private static void heldUntilItIsFound() {
+    Check.part("packets for each destination stay in their buffer while other messages arrive");
+    for (int goal = 0; goal < 4; goal++) {
+      // A chain that ends at the goal; the node before the broken link repairs.
+      int origin = (goal + 1) % 4;
+      int middle = (goal + 2) % 4;
+      int before = (goal + 3) % 4;
+      MeshRouting x = Check.mesh(4, origin, middle, middle, before, before, goal);
+      x.setParameter(1, 3);
+      x.send(origin, goal);
+      x.run(9);
+      x.send(origin, goal);
+      x.setLink(before, goal, 0);
+      x.run(2);
+      Check.due("searching() for " + goal, x.searching(before, goal), 2);
+      x.setParameter(7, 0);
+      x.send(middle, before);
+      x.run(1);
+      Check.due("stateOf(2)", x.stateOf(2), 2);
+      Check.due("stateOf(1)", x.stateOf(1), 0);
+      Check.due("buffered() for " + goal, x.buffered(before, goal), 1);
+      Check.due("searching() for " + goal, x.searching(before, goal), 2);
+    }
   }
 
   private static void timeoutsInOrder() {
